@@ -14,6 +14,8 @@ public final class KnowingTest {
         promise30And31TwoAndSettle();
         promise32Game();
         promise33To35Living();
+        otherCallsBetween();
+        sevenDays();
         c.end();
     }
 
@@ -153,6 +155,18 @@ public final class KnowingTest {
         c.due("knows both", x.cards(1), 0);
         x.order(0);
         c.due("by dates", x.cards(3), 0);
+        x.order(18);
+        x.day(1, 5);
+        c.due("3012: 0 and 1 know", x.cards(2), 0);
+        c.due("3012: 0, 1 and 2 know", x.cards(3), 1);
+        x.order(13);
+        c.due("2031: 0 knows 1", x.cards(2), 3);
+        x.order(12);
+        c.due("2013: 0 knows 1, so does 1", x.cards(2), 2);
+        x.life(2);
+        x.fact(1, 1, 4, true);
+        x.order(1);
+        c.due("day 0 alone knows", x.cards(1), 16);
         c.badOutside(x, "cards", 0, 3, -2, x::cards);
     }
 
@@ -210,6 +224,23 @@ public final class KnowingTest {
         x.fact(3, 1, 0, true);
         c.due("the same fact twice goes once", x.game(0), 1);
         c.due("of like ones the least", x.game(1), 2);
+        x.life(3);
+        x.fact(0, 1, 0, true);
+        x.fact(1, 1, 0, true);
+        x.fact(1, 1, 1, true);
+        x.fact(2, 1, 2, true);
+        c.due("what day 0 gave is had", x.game(0), 1);
+        x.fact(0, 1, 1, true);
+        c.due("0 and 1 are alike: one more", x.game(0), 1);
+        c.due("0 and 1 are alike", x.game(1), 0);
+        x.life(2);
+        x.fact(0, 1, 3, true);
+        x.fact(1, 1, 3, true);
+        c.due("two alike", x.game(0), 1);
+        c.due("two alike", x.game(1), 0);
+        x.life(4);
+        x.fact(2, 1, 0, true);
+        x.fact(3, 1, 0, true);
         x.fact(3, 1, 1, true);
         c.due("both facts at once", x.game(0), 2);
         c.due("both facts at once", x.game(1), 3);
@@ -232,6 +263,87 @@ public final class KnowingTest {
         c.due("one each", x.game(1), 0);
         c.refused(x, "game(2)", -2, -100, () -> x.game(2));
         c.badOutside(x, "game", 0, 1, -100, x::game);
+    }
+
+    /** What is asked between leaves no trace in what she knows and lives. */
+    private static void otherCallsBetween() {
+        ShuffledDays x = new ShuffledDays();
+        x.fact(3, 1, 0, true);
+        x.fact(2, 0, 0, true);
+        x.fact(1, 0, 0, true);
+        x.fact(0, 0, 0, true);
+        x.order(18);
+        for (int k = 0; k < 4; k++) {
+            ask(x, k);
+            c.due("live " + k, x.live(), 1);
+            ask(x, k);
+            c.due("well", x.sofar(1), k + 1);
+            ask(x, k);
+            c.due("learnt", x.sofar(2), 1);
+            ask(x, k);
+            c.due("lived", x.lived(k), new int[] {3, 0, 1, 2}[k]);
+            ask(x, k);
+            c.due("knows", x.knows(k), k == 3 ? 0 : 1);
+        }
+        x.order(0);
+        x.promise(0, 0, 1);
+        c.due("a promise is none of hers", x.live(), 0);
+        x.promise(0, 0, 1);
+        c.due("a promise is none of hers", x.sofar(2), 0);
+    }
+
+    private static void ask(ShuffledDays x, int k) {
+        if (k == 0) {
+            x.hang(-1);
+        } else if (k == 1) {
+            x.two(0);
+        } else if (k == 2) {
+            x.promise(5, 1, 0);
+        } else {
+            x.mean();
+        }
+    }
+
+    /** As many days as there may be, all rows full. */
+    private static void sevenDays() {
+        ShuffledDays x = new ShuffledDays();
+        x.life(7);
+        for (int d = 0; d < 6; d++) {
+            x.fact(d, 1, d, true);
+            x.fact(6, 0, d, true);
+            x.note(d, d);
+            x.ahead(d, 6);
+        }
+        c.due("knows all", x.knows(6), 63);
+        c.due("when", x.when(6, 63), 64);
+        c.due("must", x.must(6), 63);
+        c.due("hang", x.hang(-1), 720);
+        c.due("all go well", x.notes(0), 0);
+        c.due("two", x.two(6), 63);
+        c.due("settle", x.settle(5, 1), 6);
+        c.due("game", x.game(0), 0);
+        c.due("game", x.game(1), 0);
+        c.due("cards", x.cards(6), 0);
+        for (int k = 0; k < 7; k++) {
+            c.due("live", x.live(), 1);
+            c.due("diary", x.diary(k, (1 << k) - 1), -1);
+        }
+        c.due("so far", x.sofar(0) * 100 + x.sofar(2), 763);
+        c.due("torn", x.torn(0), 1);
+        x.order(5039);
+        c.due("6 first: missing all", x.missing(6), 63);
+        c.due("6 first", x.first(0), 6);
+        c.due("6 others", x.first(1), 6);
+        c.due("no notes help", x.notes(0), -1);
+        c.due("cards", x.cards(0), 0);
+        c.due("cards", x.cards(6), 62);
+        x.tear(1);
+        c.due("promise", x.promise(0, 1, 6), 1);
+        c.due("all but 6 ahead of 0 ahead of 1", x.part(0) * 10 + x.part(1), 56);
+        x.at(6, 6);
+        c.due("at", x.hang(0), 0);
+        x.at(6, 0);
+        c.due("at", x.best(), 4320);
     }
 
     private static void promise33To35Living() {

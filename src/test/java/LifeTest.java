@@ -333,6 +333,10 @@ public final class LifeTest {
         fault("life 3;day 0 1", 14);
         fault("lif 3;", 0);
         fault("lifes 3;", 0);
+        fault("lifez 3;", 0);
+        fault("jife 3;", 0);
+        fault("lifa 3;", 0);
+        fault("zlife 3;", 0);
         fault("day 0 1;", 0);
         fault(" ;", 1);
         fault("4", 0);
@@ -359,6 +363,14 @@ public final class LifeTest {
         fault("life 123;", 5);
         fault("life 3;day 12;", 11);
         fault("life 3;day 1 12;", 13);
+        // what stood behind the text once is none of it
+        ShuffledDays x = new ShuffledDays();
+        Checks.readAnew(x, "life 3;dayx");
+        c.due("a word at the end", Checks.readAnew(x, "life 3;day"), -20);
+        Checks.readAnew(x, "life 34");
+        c.due("a figure at the end", Checks.readAnew(x, "life 3"), -16);
+        Checks.readAnew(x, "life 3;;");
+        c.due("a stop at the end", Checks.readAnew(x, "life 3"), -16);
         // a fault goes ahead of an item that would be refused
         fault("life 9;x", 7);
         fault("life 3;day 7 7;day", 18);

@@ -66,6 +66,14 @@ public final class OrdersTest {
         c.due("none for 0", x.must(0), 0);
         x.at(0, 3);
         c.no(x, "none hang together", () -> x.must(0));
+        x.life(3);
+        x.at(0, 2);
+        c.due("120 and 210", x.must(1), 0);
+        c.due("120 and 210", x.must(0), 6);
+        x.fact(2, 1, 0, true);
+        x.fact(1, 0, 0, true);
+        c.due("210, the last", x.must(1), 4);
+        c.due("210, the last", x.must(2), 0);
         c.badOutside(x, "must", 0, 3, -2, x::must);
     }
 
@@ -226,6 +234,13 @@ public final class OrdersTest {
         c.due("3 is last", x.when(3, 1), 8);
         x.diary(0, 63);
         c.due("whatever the diary says", x.when(3, 1), 8);
+        c.due("all facts", x.when(3, 63), 0);
+        x.life(3);
+        x.fact(2, 1, 0, true);
+        x.ahead(2, 1);
+        x.ahead(1, 0);
+        c.due("the last order", x.when(0, 1), 4);
+        x.life(4);
         x.at(3, 0);
         x.ahead(0, 3);
         c.due("none is as told", x.when(3, 0), 0);
