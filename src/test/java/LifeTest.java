@@ -303,12 +303,8 @@ public final class LifeTest {
             longest += "day " + i % 7 + " 1;";
         }
         c.due("many items", Checks.readAnew(x, longest), 17);
-        String most = "life7;";
-        for (int i = 0; i < 24; i++) {
-            most += "at" + i % 7 + " 0;";
-        }
-        c.due("150 bytes", most.length(), 150);
-        c.due("as many items as fit", Checks.readAnew(x, most), 25);
+        c.due("150 bytes", Checks.LONGEST.length(), 150);
+        c.due("as many items as fit", Checks.readAnew(x, Checks.LONGEST), 25);
     }
 
     private static void fault(String text, int place) {
