@@ -105,6 +105,20 @@ final class Checks {
         return s.toString();
     }
 
+    static ShuffledDays life(int n) {
+        ShuffledDays x = new ShuffledDays();
+        x.life(n);
+        return x;
+    }
+
+    static void facts(ShuffledDays x, int d, int what, int facts) {
+        for (int f = 0; f < 6; f++) {
+            if ((facts >> f & 1) != 0) {
+                x.fact(d, what, f, true);
+            }
+        }
+    }
+
     static void type(ShuffledDays x, String text) {
         for (int i = 0; i < text.length(); i++) {
             x.type(text.charAt(i));

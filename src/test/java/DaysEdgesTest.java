@@ -40,26 +40,12 @@ public final class DaysEdgesTest {
         c.end();
     }
 
-    private static ShuffledDays life(int n) {
-        ShuffledDays x = new ShuffledDays();
-        x.life(n);
-        return x;
-    }
-
     private static void teaches(ShuffledDays x, int d, int facts) {
-        facts(x, d, 1, facts);
+        Checks.facts(x, d, 1, facts);
     }
 
     private static void needs(ShuffledDays x, int d, int facts) {
-        facts(x, d, 0, facts);
-    }
-
-    private static void facts(ShuffledDays x, int d, int what, int facts) {
-        for (int f = 0; f < 6; f++) {
-            if ((facts >> f & 1) != 0) {
-                x.fact(d, what, f, true);
-            }
-        }
+        Checks.facts(x, d, 0, facts);
     }
 
     /** "n 1 .. 7; 4 at first": life answers what n was. */
@@ -83,7 +69,7 @@ public final class DaysEdgesTest {
             for (int m = 1; m <= 7; m++) {
                 ShuffledDays x = State.some(n).make();
                 x.life(m);
-                c.alike("life(" + m + ") behind some of " + n, State.asksOf(x), State.asksOf(life(m)));
+                c.alike("life(" + m + ") behind some of " + n, State.asksOf(x), State.asksOf(Checks.life(m)));
                 c.due("diary", x.diary(m - 1, -1), -1);
                 c.due("at", x.at(m - 1, -1), -1);
                 c.due("kind", x.day(m - 1, 0), 0);
@@ -91,7 +77,7 @@ public final class DaysEdgesTest {
             }
             ShuffledDays x = State.full(n).make();
             x.life(n);
-            c.alike("life(" + n + ") behind a full one", State.asksOf(x), State.asksOf(life(n)));
+            c.alike("life(" + n + ") behind a full one", State.asksOf(x), State.asksOf(Checks.life(n)));
         }
     }
 
@@ -121,7 +107,7 @@ public final class DaysEdgesTest {
             ShuffledDays x = null;
             for (int rank = 0; rank < orders.size(); rank++) {
                 if (x == null || rank % 50 == 0) {
-                    x = life(n);
+                    x = Checks.life(n);
                 }
                 x.order(rank);
                 for (int k = 0; k < n; k++) {
@@ -134,7 +120,7 @@ public final class DaysEdgesTest {
     private static void orderGivesTheRankItHad() {
         for (int n = 1; n <= 7; n++) {
             int last = State.ORDERS_OF[n] - 1;
-            ShuffledDays x = life(n);
+            ShuffledDays x = Checks.life(n);
             c.due("by dates", x.order(last), 0);
             c.due("the last", x.order(last), last);
             c.due("the last", x.order(0), last);
@@ -146,7 +132,7 @@ public final class DaysEdgesTest {
     }
 
     private static void everyKindOnEveryDay() {
-        ShuffledDays x = life(7);
+        ShuffledDays x = Checks.life(7);
         for (int d = 0; d < 7; d++) {
             for (int kind = 5; kind >= 0; kind--) {
                 c.due("day(" + d + ", " + kind + ")", x.day(d, kind), kind == 5 ? 0 : kind + 1);
@@ -158,7 +144,7 @@ public final class DaysEdgesTest {
 
     /** "sets of FACTS 0 .. 5, bits; none at first", filled up and emptied. */
     private static void everyFactOfEveryDay() {
-        ShuffledDays x = life(7);
+        ShuffledDays x = Checks.life(7);
         x.order(5039);
         for (int d = 0; d < 7; d++) {
             c.due("needs none", x.missing(d), 0);
@@ -182,7 +168,7 @@ public final class DaysEdgesTest {
 
     /** What a day teaches is known from the next one on: there is none. */
     private static void oneDayKnowsNothing() {
-        ShuffledDays x = life(1);
+        ShuffledDays x = Checks.life(1);
         teaches(x, 0, ALL_FACTS);
         x.note(0, 0);
         for (int kind = 0; kind < 6; kind++) {
@@ -204,7 +190,7 @@ public final class DaysEdgesTest {
 
     private static void firstLivedKnowsWhatSheReads() {
         for (int first = 0; first < 7; first++) {
-            ShuffledDays x = life(7);
+            ShuffledDays x = Checks.life(7);
             for (int d = 0; d < 7; d++) {
                 teaches(x, d, 1 << d % 6);
             }
@@ -220,7 +206,7 @@ public final class DaysEdgesTest {
     }
 
     private static void lastLivedKnowsAllButItsOwn() {
-        ShuffledDays x = life(6);
+        ShuffledDays x = Checks.life(6);
         for (int d = 0; d < 6; d++) {
             teaches(x, d, 1 << d);
         }
@@ -233,7 +219,7 @@ public final class DaysEdgesTest {
 
     private static void notReadOnItsOwnDateNorAhead() {
         for (int d = 0; d < 7; d++) {
-            ShuffledDays x = life(7);
+            ShuffledDays x = Checks.life(7);
             teaches(x, 6, 1);
             x.order(5039);
             x.note(d, 0);
@@ -246,7 +232,7 @@ public final class DaysEdgesTest {
     /** "whether she has lived d or not": the day that teaches it is lived first, d last. */
     private static void readOnEachLaterDate() {
         for (int d = 0; d < 6; d++) {
-            ShuffledDays x = life(7);
+            ShuffledDays x = Checks.life(7);
             teaches(x, 6, 32);
             x.order(5039);
             x.note(d, 5);
@@ -260,7 +246,7 @@ public final class DaysEdgesTest {
     }
 
     private static void noteOfTheLastDate() {
-        ShuffledDays x = life(7);
+        ShuffledDays x = Checks.life(7);
         teaches(x, 0, ALL_FACTS);
         for (int f = 0; f < 6; f++) {
             c.due("note", x.note(6, f), f);
@@ -272,7 +258,7 @@ public final class DaysEdgesTest {
 
     /** She knows it there only from the next day of hers on: nothing is written. */
     private static void noteOfWhatThatDayTeaches() {
-        ShuffledDays x = life(3);
+        ShuffledDays x = Checks.life(3);
         teaches(x, 0, 1);
         x.note(0, 0);
         c.due("by dates", x.reads(1), 0);
@@ -285,7 +271,7 @@ public final class DaysEdgesTest {
 
     /** A note that lies on by another: 1 knows by reading alone, 0 writes no more, and nothing is left. */
     private static void noteOfWhatIsReadThere() {
-        ShuffledDays x = life(4);
+        ShuffledDays x = Checks.life(4);
         teaches(x, 3, 1);
         x.order(12 + 5);
         c.due("2310", 1000 * x.lived(0) + 100 * x.lived(1) + 10 * x.lived(2) + x.lived(3), 2310);
@@ -324,7 +310,7 @@ public final class DaysEdgesTest {
 
     /** 2 teaches, 0 of a kind writes, 1 of a kind reads. */
     private static int readBehind(int writes, int reads) {
-        ShuffledDays x = life(3);
+        ShuffledDays x = Checks.life(3);
         teaches(x, 2, 1);
         x.order(5);
         x.note(0, 0);
@@ -334,7 +320,7 @@ public final class DaysEdgesTest {
     }
 
     private static void sixNotesOfOneDay() {
-        ShuffledDays x = life(7);
+        ShuffledDays x = Checks.life(7);
         teaches(x, 6, ALL_FACTS);
         x.order(5039);
         for (int f = 5; f >= 0; f--) {
@@ -347,7 +333,7 @@ public final class DaysEdgesTest {
 
     private static void illLearnsNothing() {
         for (int kind = 0; kind < 6; kind++) {
-            ShuffledDays x = life(2);
+            ShuffledDays x = Checks.life(2);
             teaches(x, 0, ALL_FACTS);
             x.day(0, kind);
             c.due("learnt by kind " + kind, x.knows(1), kind == 2 || kind == 5 ? 0 : ALL_FACTS);
@@ -356,7 +342,7 @@ public final class DaysEdgesTest {
 
     /** Known there or not. */
     private static void schoolLearnsWhatItNeeds() {
-        ShuffledDays x = life(2);
+        ShuffledDays x = Checks.life(2);
         needs(x, 0, ALL_FACTS);
         x.day(0, 4);
         c.due("does not go well", x.missing(0), ALL_FACTS);
@@ -367,7 +353,7 @@ public final class DaysEdgesTest {
 
     private static void dreamNeedsNothing() {
         for (int kind = 0; kind < 6; kind++) {
-            ShuffledDays x = life(1);
+            ShuffledDays x = Checks.life(1);
             needs(x, 0, ALL_FACTS);
             x.day(0, kind);
             c.due("missing on kind " + kind, x.missing(0), kind == 5 ? 0 : ALL_FACTS);
@@ -376,7 +362,7 @@ public final class DaysEdgesTest {
     }
 
     private static void goesWellIfAllIsKnown() {
-        ShuffledDays x = life(2);
+        ShuffledDays x = Checks.life(2);
         needs(x, 1, ALL_FACTS);
         for (int f = 0; f < 6; f++) {
             c.due("not all", x.first(0), 1);
@@ -391,7 +377,7 @@ public final class DaysEdgesTest {
 
     /** "the first of the ORDER that does not go well; none"; "how many DAYS do": 0 to all. */
     private static void firstAndWell() {
-        ShuffledDays x = life(7);
+        ShuffledDays x = Checks.life(7);
         x.order(5039);
         for (int well = 7; well >= 0; well--) {
             c.due("well", x.first(1), well);
@@ -407,7 +393,7 @@ public final class DaysEdgesTest {
 
     private static void cardsOfTheFirstDate() {
         for (int n = 1; n <= 7; n++) {
-            ShuffledDays x = life(n);
+            ShuffledDays x = Checks.life(n);
             teaches(x, n - 1, ALL_FACTS);
             x.order(State.ORDERS_OF[n] - 1);
             c.due("no date is lesser", x.cards(0), 0);
@@ -417,7 +403,7 @@ public final class DaysEdgesTest {
 
     /** Not what is known on its own date or on greater ones, and not what is known there. */
     private static void cardsAreOfLesserDates() {
-        ShuffledDays x = life(4);
+        ShuffledDays x = Checks.life(4);
         teaches(x, 0, 1);
         teaches(x, 1, 2);
         teaches(x, 2, 4);
@@ -439,7 +425,7 @@ public final class DaysEdgesTest {
     private static void otherByDatesAtFirst() {
         for (int n = 1; n <= 7; n++) {
             int last = State.ORDERS_OF[n] - 1;
-            ShuffledDays x = life(n);
+            ShuffledDays x = Checks.life(n);
             teaches(x, 0, 1);
             x.order(last);
             c.due("hers reversed, the other's by dates", x.two(n - 1), 0);
@@ -453,7 +439,7 @@ public final class DaysEdgesTest {
 
     /** "SETTLE a FACT: how many DAYS both KNOW it on; the first date; none". */
     private static void settleFromNoneToAll() {
-        ShuffledDays x = life(7);
+        ShuffledDays x = Checks.life(7);
         for (int f = 0; f < 6; f++) {
             c.due("none", x.settle(f, 0), 0);
             c.due("no date", x.settle(f, 1), -1);
@@ -480,7 +466,7 @@ public final class DaysEdgesTest {
 
     /** All that it teaches is his. */
     private static void gameOfOneDay() {
-        ShuffledDays x = life(1);
+        ShuffledDays x = Checks.life(1);
         c.due("nothing", x.game(0), 0);
         c.due("the one day", x.game(1), 0);
         for (int f = 0; f < 6; f++) {
@@ -497,7 +483,7 @@ public final class DaysEdgesTest {
     /** "of like ones the least"; "those that either has already" go to nobody again. */
     private static void gameFromNoneToAll() {
         for (int n = 1; n <= 7; n++) {
-            ShuffledDays x = life(n);
+            ShuffledDays x = Checks.life(n);
             needs(x, n - 1, ALL_FACTS);
             c.due("nothing is taught", x.game(0), 0);
             c.due("of like ones the least", x.game(1), 0);
@@ -513,7 +499,7 @@ public final class DaysEdgesTest {
     }
 
     private static void gameOfSevenDays() {
-        ShuffledDays x = life(7);
+        ShuffledDays x = Checks.life(7);
         for (int d = 0; d < 6; d++) {
             teaches(x, d, 1 << d);
         }
@@ -532,7 +518,7 @@ public final class DaysEdgesTest {
     /** "by turns, he first": an odd one is his. */
     private static void gameByTurns() {
         for (int n = 1; n <= 6; n++) {
-            ShuffledDays x = life(n);
+            ShuffledDays x = Checks.life(n);
             for (int d = 0; d < n; d++) {
                 teaches(x, d, 1 << d);
             }

@@ -27,15 +27,9 @@ public final class LivingEdgesTest {
         c.end();
     }
 
-    private static ShuffledDays life(int n) {
-        ShuffledDays x = new ShuffledDays();
-        x.life(n);
-        return x;
-    }
-
     private static void livedFromNoneToAll() {
         for (int n = 1; n <= 7; n++) {
-            ShuffledDays x = life(n);
+            ShuffledDays x = Checks.life(n);
             for (int k = 0; k <= n; k++) {
                 c.due("lived", x.sofar(0), k);
                 c.due("well", x.sofar(1), k);
@@ -53,7 +47,7 @@ public final class LivingEdgesTest {
 
     /** "DAYS of the ORDER one by one, from the first": here from the last date. */
     private static void livedByTheOrder() {
-        ShuffledDays x = life(6);
+        ShuffledDays x = Checks.life(6);
         for (int d = 0; d < 6; d++) {
             x.fact(d, 1, d, true);
         }
@@ -72,7 +66,7 @@ public final class LivingEdgesTest {
     /** "(she LEARNS by it all the same)", but on a day by which nothing is. */
     private static void learntAllTheSame() {
         for (int kind = 0; kind < 6; kind++) {
-            ShuffledDays x = life(1);
+            ShuffledDays x = Checks.life(1);
             x.fact(0, 0, 0, true);
             x.fact(0, 1, 1, true);
             x.day(0, kind);
@@ -83,7 +77,7 @@ public final class LivingEdgesTest {
             c.due("learnt no more", x.sofar(2), 0);
             c.due("well no more", x.sofar(1), 0);
         }
-        ShuffledDays x = life(2);
+        ShuffledDays x = Checks.life(2);
         x.fact(1, 1, 0, true);
         x.order(1);
         x.note(0, 0);
@@ -96,7 +90,7 @@ public final class LivingEdgesTest {
 
     /** "UNDO: the last one": what both teach is learnt still. */
     private static void undoneToNone() {
-        ShuffledDays x = life(3);
+        ShuffledDays x = Checks.life(3);
         x.fact(0, 1, 0, true);
         x.fact(1, 1, 0, true);
         x.fact(1, 1, 1, true);
@@ -115,7 +109,7 @@ public final class LivingEdgesTest {
     }
 
     private static int livedBehind(int answer, ToLongFunction<ShuffledDays> call) {
-        ShuffledDays x = life(4);
+        ShuffledDays x = Checks.life(4);
         x.fact(0, 1, 0, true);
         x.note(1, 1);
         x.ahead(0, 1);
@@ -186,7 +180,7 @@ public final class LivingEdgesTest {
 
     /** What she KNOWS, READS and misses is by the whole ORDER, however much of it is lived. */
     private static void whatSheKnowsIsNotWhatIsLived() {
-        ShuffledDays x = life(3);
+        ShuffledDays x = Checks.life(3);
         x.fact(2, 1, 0, true);
         x.fact(2, 0, 0, true);
         x.note(0, 0);
@@ -224,7 +218,7 @@ public final class LivingEdgesTest {
         x.life(3);
         for (int i = 0; i < 2; i++) {
             c.due("gone on", x.from(i), 1);
-            c.alike("image " + i, State.asksOf(x), State.asksOf(life(2)));
+            c.alike("image " + i, State.asksOf(x), State.asksOf(Checks.life(2)));
         }
         x.life(6);
         x.image(1);
@@ -238,7 +232,7 @@ public final class LivingEdgesTest {
 
     /** "all but them, THE TEXT, THE FRACTION and STATUS". */
     private static void imageKeepsAllButThese() {
-        ShuffledDays x = life(3);
+        ShuffledDays x = Checks.life(3);
         Checks.type(x, "life 1;");
         x.mean();
         x.life(0);
@@ -296,7 +290,7 @@ public final class LivingEdgesTest {
 
     /** Only mean and promise that are answered make it another. */
     private static void fractionStays() {
-        ShuffledDays x = life(3);
+        ShuffledDays x = Checks.life(3);
         x.promise(0, 0, 1);
         x.image(0);
         x.life(2);
@@ -321,7 +315,7 @@ public final class LivingEdgesTest {
 
     private static void countOfEachRow() {
         for (int n = 1; n <= 7; n++) {
-            ShuffledDays bare = life(n);
+            ShuffledDays bare = Checks.life(n);
             ShuffledDays full = State.full(n).make();
             int[] most = {n, 6, n > 1 ? 6 : 0, n, 3, 150, State.ORDERS_OF[n] - 1};
             for (int what = 0; what <= 6; what++) {
@@ -383,7 +377,7 @@ public final class LivingEdgesTest {
                 c.due("nothing else", x.digest(), fullDigest(n, what, x));
                 ShuffledDays y = State.bare(n).make();
                 c.due("tear(" + what + ") of a bare life", y.tear(what), 0);
-                c.due("nothing at all", y.digest(), life(n).digest());
+                c.due("nothing at all", y.digest(), Checks.life(n).digest());
             }
         }
     }
@@ -397,13 +391,13 @@ public final class LivingEdgesTest {
             for (int k = 0; k < n; k++) {
                 h = folded(h, -1);
             }
-            c.due("digest of " + n + " bare days", life(n).digest(), folded(h, 0, 0, 0, 1));
+            c.due("digest of " + n + " bare days", Checks.life(n).digest(), folded(h, 0, 0, 0, 1));
         }
     }
 
     /** What is told and told no more leaves no trace in it; what STATUS counts is not in it. */
     private static void digestOfEachNumber() {
-        ShuffledDays x = life(3);
+        ShuffledDays x = Checks.life(3);
         long bare = x.digest();
         x.day(2, 5);
         x.fact(2, 0, 5, true);
@@ -457,7 +451,7 @@ public final class LivingEdgesTest {
             c.due("mean", x.mean(), 1);
             c.due("torn", x.torn(0), 5040);
         }
-        ShuffledDays y = life(7);
+        ShuffledDays y = Checks.life(7);
         for (int i = 1; i < 512; i++) {
             c.due("the last", y.hang(5039), 5039);
         }

@@ -37,25 +37,11 @@ public final class OrdersEdgesTest {
         c.end();
     }
 
-    private static ShuffledDays life(int n) {
-        ShuffledDays x = new ShuffledDays();
-        x.life(n);
-        return x;
-    }
-
-    private static void facts(ShuffledDays x, int d, int what, int facts) {
-        for (int f = 0; f < 6; f++) {
-            if ((facts >> f & 1) != 0) {
-                x.fact(d, what, f, true);
-            }
-        }
-    }
-
     /** "how many (i = NONE), the i-th. -5: not so many": the last i that is, the first that is not. */
     private static void hangFromNoneToAll() {
         for (int n = 1; n <= 7; n++) {
             int orders = State.ORDERS_OF[n];
-            ShuffledDays x = life(n);
+            ShuffledDays x = Checks.life(n);
             c.due("all of " + n, x.hang(-1), orders);
             c.due("the first", x.hang(0), 0);
             c.due("the last", x.hang(orders - 1), orders - 1);
@@ -69,7 +55,7 @@ public final class OrdersEdgesTest {
 
     private static void hangTheLastAlone() {
         for (int n = 2; n <= 7; n++) {
-            ShuffledDays x = life(n);
+            ShuffledDays x = Checks.life(n);
             for (int d = 0; d < n - 1; d++) {
                 x.ahead(d + 1, d);
             }
@@ -86,7 +72,7 @@ public final class OrdersEdgesTest {
 
     /** Six pairs are as many as put seven days into a row; three put three days into a ring. */
     private static void pairsInARowAndInARing() {
-        ShuffledDays x = life(7);
+        ShuffledDays x = Checks.life(7);
         for (int d = 5; d >= 0; d--) {
             x.ahead(d, d + 1);
         }
@@ -106,7 +92,7 @@ public final class OrdersEdgesTest {
 
     private static void mustFromNoneToAll() {
         for (int n = 1; n <= 7; n++) {
-            ShuffledDays x = life(n);
+            ShuffledDays x = Checks.life(n);
             for (int d = 0; d < n; d++) {
                 c.due("nothing must", x.must(d), 0);
             }
@@ -120,7 +106,7 @@ public final class OrdersEdgesTest {
 
     private static void atTheFirstAndTheLastPlace() {
         for (int n = 1; n <= 7; n++) {
-            ShuffledDays x = life(n);
+            ShuffledDays x = Checks.life(n);
             int rest = State.ORDERS_OF[n - 1];
             c.due("at first none", x.at(n - 1, 0), -1);
             c.due("the last day first", x.hang(-1), rest);
@@ -140,7 +126,7 @@ public final class OrdersEdgesTest {
 
     /** A second place told of a day stands for the first; a second day told of a place stands beside it. */
     private static void atIsOneOfEachDay() {
-        ShuffledDays x = life(3);
+        ShuffledDays x = Checks.life(3);
         x.at(0, 0);
         c.due("was", x.at(0, 2), 0);
         c.due("the last told counts", x.hang(0), 3);
@@ -153,7 +139,7 @@ public final class OrdersEdgesTest {
 
     /** For HANG TOGETHER, MUST, MEAN, BEST and WHEN it is AHEAD and AT; THE DIARY counts for promise 27 alone. */
     private static void allThatIsToldIsNotTheDiary() {
-        ShuffledDays x = life(3);
+        ShuffledDays x = Checks.life(3);
         x.diary(0, 63);
         c.due("torn", x.torn(0), 0);
         c.due("hang", x.hang(-1), 6);
@@ -171,7 +157,7 @@ public final class OrdersEdgesTest {
 
     private static void fewestOfNoneNeeded() {
         for (int n = 1; n <= 7; n++) {
-            ShuffledDays x = life(n);
+            ShuffledDays x = Checks.life(n);
             fewest(x, "all well", 0, -1, -1);
             for (int f = 0; f < 6; f++) {
                 x.note(n - 1, f);
@@ -184,10 +170,10 @@ public final class OrdersEdgesTest {
 
     /** The last date first: it needs what all know that live behind it. */
     private static ShuffledDays lastDateFirst(int n, int needed) {
-        ShuffledDays x = life(n);
+        ShuffledDays x = Checks.life(n);
         x.order((n - 1) * State.ORDERS_OF[n - 1]);
-        facts(x, n - 1, 1, needed);
-        facts(x, n - 1, 0, needed);
+        Checks.facts(x, n - 1, 1, needed);
+        Checks.facts(x, n - 1, 0, needed);
         return x;
     }
 
@@ -210,10 +196,10 @@ public final class OrdersEdgesTest {
 
     /** "the lesser one ahead": by 10 DAY and FACT, so a lesser day with a greater fact is the lesser one. */
     private static void fewestLesserOneAhead() {
-        ShuffledDays x = life(3);
-        facts(x, 1, 1, 1);
-        facts(x, 2, 1, 32);
-        facts(x, 2, 0, 33);
+        ShuffledDays x = Checks.life(3);
+        Checks.facts(x, 1, 1, 1);
+        Checks.facts(x, 2, 1, 32);
+        Checks.facts(x, 2, 0, 33);
         x.order(5);
         c.due("210", x.lived(0), 2);
         fewest(x, "0 knows both", 2, 0, 5);
@@ -272,7 +258,7 @@ public final class OrdersEdgesTest {
     }
 
     private static void fewestOfTheOrderAndEachTold() {
-        ShuffledDays x = life(3);
+        ShuffledDays x = Checks.life(3);
         x.fact(2, 1, 0, true);
         x.fact(2, 0, 0, true);
         fewest(x, "by dates 2 never knows it", -1, -1, -1);
@@ -330,7 +316,7 @@ public final class OrdersEdgesTest {
     /** "THE FRACTION is 0 by 1 at first; lowest terms, below above 0." */
     private static void meanFromNoughtToAll() {
         for (int n = 1; n <= 7; n++) {
-            ShuffledDays x = life(n);
+            ShuffledDays x = Checks.life(n);
             c.due("above at first", x.part(0), 0);
             c.due("below at first", x.part(1), 1);
             fraction(x, "all of " + n, x.mean(), n, 1);
@@ -345,7 +331,7 @@ public final class OrdersEdgesTest {
     }
 
     private static void meanInLowestTerms() {
-        ShuffledDays x = life(7);
+        ShuffledDays x = Checks.life(7);
         x.fact(0, 1, 0, true);
         x.fact(1, 0, 0, true);
         fraction(x, "half of one", x.mean(), 13, 2);
@@ -366,7 +352,7 @@ public final class OrdersEdgesTest {
 
     private static void bestOfLikeOnes() {
         for (int n = 1; n <= 7; n++) {
-            ShuffledDays x = life(n);
+            ShuffledDays x = Checks.life(n);
             c.due("all alike: the least", x.best(), 0);
             x.at(n - 1, 0);
             c.due("all alike, as told: the least", x.best(), (n - 1) * State.ORDERS_OF[n - 1]);
@@ -375,7 +361,7 @@ public final class OrdersEdgesTest {
 
     private static void bestTheLastAlone() {
         for (int n = 2; n <= 6; n++) {
-            ShuffledDays x = life(n);
+            ShuffledDays x = Checks.life(n);
             for (int d = 0; d < n - 1; d++) {
                 x.fact(d + 1, 1, d, true);
                 x.fact(d, 0, d, true);
@@ -388,7 +374,7 @@ public final class OrdersEdgesTest {
     }
 
     private static void bestWithNoneGoingWell() {
-        ShuffledDays x = life(3);
+        ShuffledDays x = Checks.life(3);
         for (int d = 0; d < 3; d++) {
             x.fact(d, 0, 5, true);
         }
@@ -400,13 +386,13 @@ public final class OrdersEdgesTest {
     /** "as the how manieth (bits, 0 on)". */
     private static void whenTheFirstAndTheLast() {
         for (int n = 1; n <= 7; n++) {
-            ShuffledDays x = life(n);
+            ShuffledDays x = Checks.life(n);
             int all = (1 << n) - 1;
             for (int d = 0; d < n; d++) {
                 c.due("any time", x.when(d, 0), all);
             }
             for (int d = 1; d < n; d++) {
-                facts(x, d, 1, d == 1 ? 63 : 0);
+                Checks.facts(x, d, 1, d == 1 ? 63 : 0);
             }
             c.due("with all: behind day 1", x.when(0, 63), n == 1 ? 0 : all - 1);
             c.due("with nothing: ahead of it", x.when(0, 0), n == 1 ? 1 : all >> 1);
@@ -419,7 +405,7 @@ public final class OrdersEdgesTest {
     }
 
     private static void whenNever() {
-        ShuffledDays x = life(2);
+        ShuffledDays x = Checks.life(2);
         x.fact(0, 1, 0, true);
         c.due("just the set, not a part of it", x.when(1, 3), 0);
         c.due("the set", x.when(1, 1), 2);
@@ -434,9 +420,9 @@ public final class OrdersEdgesTest {
     /** "set NONE: torn out": another thing than that she knew nothing. */
     private static void diaryTornOutOrNothingKnown() {
         for (int n = 1; n <= 7; n++) {
-            ShuffledDays x = life(n);
+            ShuffledDays x = Checks.life(n);
             int last = n - 1;
-            facts(x, 0, 1, 63);
+            Checks.facts(x, 0, 1, 63);
             c.due("torn out at first", x.diary(last, 0), -1);
             c.due("one told", x.count(3), 1);
             c.due("she knew nothing as the last", x.torn(0), n == 1 ? 1 : State.ORDERS_OF[n - 1]);
@@ -459,7 +445,7 @@ public final class OrdersEdgesTest {
 
     private static void tornFromNoneToAll() {
         for (int n = 1; n <= 7; n++) {
-            ShuffledDays x = life(n);
+            ShuffledDays x = Checks.life(n);
             c.due("all", x.torn(0), State.ORDERS_OF[n]);
             c.due("the first rank", x.torn(1), 0);
             x.diary(0, 1);
@@ -480,7 +466,7 @@ public final class OrdersEdgesTest {
     }
 
     private static void tornWithPairsAndPlaces() {
-        ShuffledDays x = life(3);
+        ShuffledDays x = Checks.life(3);
         x.fact(0, 0, 5, true);
         c.due("well or not", x.torn(0), 6);
         x.ahead(2, 0);
@@ -495,7 +481,7 @@ public final class OrdersEdgesTest {
     }
 
     private static void promiseFromNeverToAlways() {
-        ShuffledDays x = life(2);
+        ShuffledDays x = Checks.life(2);
         for (int f = 0; f < 6; f++) {
             fraction(x, "half", x.promise(f, 0, 1), 1, 2);
             fraction(x, "half", x.promise(f, 1, 0), 1, 2);
@@ -516,7 +502,7 @@ public final class OrdersEdgesTest {
     }
 
     private static void promiseWhateverIsTold() {
-        ShuffledDays x = life(3);
+        ShuffledDays x = Checks.life(3);
         x.ahead(0, 1);
         fraction(x, "0 ahead of 1", x.promise(0, 0, 1), 1, 2);
         x.ahead(1, 0);
@@ -534,7 +520,7 @@ public final class OrdersEdgesTest {
     private static void promiseOfKinds() {
         int[] above = {2, 2, 0, 2, 2, 0};
         for (int kind = 0; kind < 6; kind++) {
-            ShuffledDays x = life(3);
+            ShuffledDays x = Checks.life(3);
             x.note(1, 3);
             x.day(0, kind);
             // 0 ahead of 2, or 0 ahead of 1 where it is noted: 201

@@ -30,11 +30,7 @@ final class State {
     }
 
     static State bare(int n) {
-        return new State("bare " + n, () -> {
-            ShuffledDays x = new ShuffledDays();
-            x.life(n);
-            return x;
-        });
+        return new State("bare " + n, () -> Checks.life(n));
     }
 
     static State some(int n) {
