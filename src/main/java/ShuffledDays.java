@@ -232,8 +232,9 @@ public final class ShuffledDays {
         int bestRank = NO;
         follow(0);
         for (int rank = 0; rank < now.orders(); rank++) {
-            if (livesAsTold() && course.wellAmong(now.days) > most) {
-                most = course.wellAmong(now.days);
+            int well = livesAsTold() ? course.wellAmong(now.days) : NONE;
+            if (well > most) {
+                most = well;
                 bestRank = rank;
             }
             course.goOn();

@@ -1,7 +1,12 @@
-/** Long runs of drawn calls, each answer held against the naive program's; the draws are the same each time. */
+/**
+ * Runs of drawn calls, up to the 512th of an object, each answer held against the naive program's; the draws are the
+ * same each time.
+ */
 public final class AgainstNaiveTest {
     private static final Checks c = new Checks("AgainstNaiveTest");
-    private static final int CALLS = 500;
+    private static final int CALLS = 512;
+    /** A digest, three of STATUS, and one that a draw may take more. */
+    private static final int LAST_CALLS = 5;
     private static final int TEXT_CALLS = 330;
     private static final int[] ORDERS_OF = {1, 1, 2, 6, 24, 120, 720, 5040};
     private static final String[] WORDS = {"life", "day", "needs", "teaches", "note", "ahead", "at"};
@@ -61,7 +66,7 @@ public final class AgainstNaiveTest {
         y = new NaiveDays();
         calls = 0;
         life(days);
-        while (calls < CALLS) {
+        while (calls < CALLS - LAST_CALLS) {
             if (draw(4) == 0) {
                 ask();
             } else {
@@ -71,10 +76,17 @@ public final class AgainstNaiveTest {
                 due("digest", x.digest(), y.digest());
             }
         }
+        lastCalls();
+    }
+
+    private void lastCalls() {
         for (int i = 0; i < 3; i++) {
             due("status", x.status(i), y.status(i));
         }
-        due("digest at last", x.digest(), y.digest());
+        while (calls < CALLS) {
+            due("digest at last", x.digest(), y.digest());
+        }
+        c.due("calls of run " + run, calls, CALLS);
     }
 
     private void due(String what, long got, long want) {
@@ -127,7 +139,7 @@ public final class AgainstNaiveTest {
                 }
             }
             default -> {
-                if (draw(3) == 0 && calls + TEXT_CALLS < CALLS) {
+                if (draw(3) == 0 && calls + TEXT_CALLS < CALLS - LAST_CALLS) {
                     readText(n);
                 }
             }
